@@ -1,0 +1,77 @@
+/** Counts what is as due and what is not, and feeds texts to a tape. */
+final class Check {
+    /** A call that should throw. */
+    interface Call {
+        void run();
+    }
+
+    /** Three inputs, two flip-flops, five lines with =, three outputs. */
+    static final String PLAIN = "in a,b,c; ff p,q; d=and(a,b); e=or(d,c,p); f=xor(e,q); "
+        + "g=nand(f,a); h=not(g); p<-f; q<-h; out f,h,q;";
+
+    private static int right = 0;
+    private static int wrong = 0;
+
+    private Check() {
+    }
+
+    static void same(String what, long got, long due) {
+        if (got == due) {
+            right++;
+        } else {
+            wrong++;
+            System.out.println(what + " answered " + got + ", due is " + due);
+        }
+    }
+
+    static void argument(String what, Call call) {
+        throwing(what, IllegalArgumentException.class, call);
+    }
+
+    static void index(String what, Call call) {
+        throwing(what, IndexOutOfBoundsException.class, call);
+    }
+
+    private static void throwing(String what, Class<?> due, Call call) {
+        Class<?> got = null;
+        try {
+            call.run();
+        } catch (RuntimeException e) {
+            got = e.getClass();
+        }
+        if (got == due) {
+            right++;
+        } else {
+            wrong++;
+            System.out.println(what + " threw " + got + ", due is " + due);
+        }
+    }
+
+    /** Feeds a text whose characters are bytes. */
+    static void feed(ScanTester x, String text) {
+        for (int at = 0; at < text.length(); at += 8) {
+            int n = Math.min(8, text.length() - at);
+            long bytes = 0;
+            for (int k = 0; k < n; k++) {
+                bytes |= (long) text.charAt(at + k) << 8 * k;
+            }
+            x.feed(n, bytes);
+        }
+    }
+
+    /** A new object that has read a text, which must have no fault. */
+    static ScanTester reading(String text) {
+        ScanTester x = new ScanTester();
+        feed(x, text);
+        x.read();
+        same("fault of " + text, x.fault(), 0);
+        return x;
+    }
+
+    static void end() {
+        System.out.println(right + " as due, " + wrong + " not");
+        if (wrong != 0 || right == 0) {
+            System.exit(1);
+        }
+    }
+}
