@@ -21,6 +21,7 @@ public final class ScanTester {
     private final Choice choice;
     private final Program program;
     private final Chip chip;
+    private int escaped = NONE;
 
     public ScanTester() {
         circuit = new Circuit();
@@ -48,7 +49,7 @@ public final class ScanTester {
         }
         circuit.become(draft);
         choice.forget();
-        program.forget();
+        escaped = NONE;
         chip.renew(NONE);
         return circuit.nets;
     }
@@ -66,9 +67,9 @@ public final class ScanTester {
             case 0: return circuit.inputs;
             case 1: return circuit.flops;
             case 2: return circuit.outputs;
-            case 3: return choice.testableCount();
-            case 4: return choice.testCount();
-            case 5: return program.rowCount();
+            case 3: choice.make(); return choice.testable;
+            case 4: choice.make(); return choice.tests;
+            case 5: choice.make(); return program.rowCount();
             default: throw new IllegalArgumentException();
         }
     }
@@ -87,6 +88,7 @@ public final class ScanTester {
         if (!isStuck(f)) {
             throw new IndexOutOfBoundsException();
         }
+        choice.make();
         switch (what) {
             case 0: return choice.patternCount(f);
             case 1: return choice.leastPattern(f);
@@ -97,13 +99,15 @@ public final class ScanTester {
     }
 
     public int test(int i) throws IndexOutOfBoundsException {
-        if (i < 0 || i >= choice.testCount()) {
+        choice.make();
+        if (i < 0 || i >= choice.tests) {
             throw new IndexOutOfBoundsException();
         }
-        return choice.testAt(i);
+        return choice.ones[i];
     }
 
     public int row(int i, int what) throws IndexOutOfBoundsException, IllegalArgumentException {
+        choice.make();
         if (i < 0 || i >= program.rowCount()) {
             throw new IndexOutOfBoundsException();
         }
@@ -121,11 +125,21 @@ public final class ScanTester {
         if (!isChip(f)) {
             throw new IndexOutOfBoundsException();
         }
+        choice.make();
         return program.failingRow(f);
     }
 
     public int escapes() {
-        return program.escapeCount();
+        if (escaped == NONE) {
+            choice.make();
+            escaped = 0;
+            for (int f = 0; f < 2 * circuit.nets; f++) {
+                if (choice.isTestable(f) && program.failingRow(f) == NONE) {
+                    escaped++;
+                }
+            }
+        }
+        return escaped;
     }
 
     public void chip(int f) throws IndexOutOfBoundsException {
@@ -173,13 +187,12 @@ public final class ScanTester {
      * serves 64 patterns, or one pattern with all 64 bits alike.
      */
     private static final class Circuit {
+        /** As Reader's list has the operations; or and buf need no name. */
         private static final int AND = 0;
-        private static final int OR = 1;
         private static final int XOR = 2;
         private static final int NAND = 3;
         private static final int NOR = 4;
         private static final int NOT = 5;
-        private static final int BUF = 6;
         private static final int MUX = 7;
 
         /** Source k in the first 64 patterns; from source 6 on it is alike within 64. */
@@ -282,30 +295,22 @@ public final class ScanTester {
         }
 
         private long gate(int net) {
+            int its = operation[net];
             int first = net * MOST_LOOKED;
-            long a = value[looked[first]];
-            switch (operation[net]) {
-                case NOT: return ~a;
-                case BUF: return a;
-                case MUX: return (~a & value[looked[first + 1]]) | (a & value[looked[first + 2]]);
-                case NAND:
-                case NOR: return ~joined(net, a);
-                default: return joined(net, a);
+            long sum = value[looked[first]];
+            if (its == MUX) {
+                return (~sum & value[looked[first + 1]]) | (sum & value[looked[first + 2]]);
             }
-        }
-
-        private long joined(int net, long first) {
-            long sum = first;
             for (int k = 1; k < lookedCount[net]; k++) {
-                long more = value[looked[net * MOST_LOOKED + k]];
-                switch (operation[net]) {
+                long more = value[looked[first + k]];
+                switch (its) {
                     case AND:
                     case NAND: sum &= more; break;
                     case XOR: sum ^= more; break;
                     default: sum |= more; break;
                 }
             }
-            return sum;
+            return its == NOT || its == NAND || its == NOR ? ~sum : sum;
         }
 
         /**
@@ -331,6 +336,7 @@ public final class ScanTester {
         private static final int CANNOT_COME = 1;
         private static final int NOT_GIVEN = 2;
         private static final int GIVEN_ALREADY = 3;
+        private static final int NO_OPERATION = 3;
         private static final int TOO_MANY = 4;
 
         private static final int BLANK = 32;
@@ -347,10 +353,13 @@ public final class ScanTester {
         private final int[] tape = new int[MOST_BYTES];
         private final int[] netOfName = new int[ALL_NAMES];
         private int length;
-        private int at;
-        private int nameAt;
         private int fault;
         private int place = NONE;
+
+        /** The word or mark that comes next: where it begins and ends, its name's number or NONE. */
+        private int at;
+        private int end;
+        private int name;
 
         Reader(Circuit draft) {
             circuit = draft;
@@ -377,9 +386,10 @@ public final class ScanTester {
         boolean accept() {
             circuit.clear();
             Arrays.fill(netOfName, NONE);
-            at = 0;
             fault = 0;
             place = NONE;
+            end = 0;
+            advance();
             return word("in") && sourceList(false)
                 && word("ff") && sourceList(true)
                 && lines()
@@ -393,36 +403,44 @@ public final class ScanTester {
             return false;
         }
 
-        private void skipBlanks() {
+        private void advance() {
+            at = end;
             while (at < length && tape[at] <= BLANK) {
                 at++;
             }
-        }
-
-        private static boolean isLetter(int b) {
-            return b >= 'a' && b <= 'z';
-        }
-
-        private static boolean isFigure(int b) {
-            return b >= '0' && b <= '9';
-        }
-
-        /** Behind the letters and figures that stand here. */
-        private int wordEnd() {
-            int end = at;
-            while (end < length && (isLetter(tape[end]) || isFigure(tape[end]))) {
+            end = at;
+            while (end < length && isWordByte(tape[end])) {
                 end++;
             }
-            return end;
+            name = nameHere();
+            if (end == at && at < length) {
+                end++;
+            }
         }
 
-        private boolean isHere(String word) {
-            skipBlanks();
-            if (wordEnd() - at != word.length()) {
+        private static boolean isWordByte(int b) {
+            return (b >= 'a' && b <= 'z') || (b >= '0' && b <= '9');
+        }
+
+        /** Within a word a byte is a letter or, if it is below them, a figure. */
+        private int nameHere() {
+            int width = end - at;
+            if (width < 1 || width > 2 || tape[at] < 'a') {
+                return NONE;
+            }
+            int letter = (tape[at] - 'a') * NAMES_A_LETTER;
+            if (width == 1) {
+                return letter;
+            }
+            return tape[at + 1] < 'a' ? letter + 1 + tape[at + 1] - '0' : NONE;
+        }
+
+        private boolean isWord(String word) {
+            if (end - at != word.length()) {
                 return false;
             }
             for (int k = 0; k < word.length(); k++) {
-                if (tape[at + k] != word.charAt(k)) {
+                if (at + k >= length || tape[at + k] != word.charAt(k)) {
                     return false;
                 }
             }
@@ -430,20 +448,23 @@ public final class ScanTester {
         }
 
         private boolean word(String word) {
-            if (!isHere(word)) {
+            if (!isWord(word)) {
                 return refuse(CANNOT_COME, at);
             }
-            at += word.length();
+            advance();
             return true;
         }
 
+        private boolean isMark(char mark) {
+            return at < length && tape[at] == mark;
+        }
+
         private boolean takes(char mark) {
-            skipBlanks();
-            if (at < length && tape[at] == mark) {
-                at++;
-                return true;
+            if (!isMark(mark)) {
+                return false;
             }
-            return false;
+            advance();
+            return true;
         }
 
         private boolean mark(char mark) {
@@ -451,42 +472,27 @@ public final class ScanTester {
         }
 
         private boolean tapeEnd() {
-            skipBlanks();
             return at == length || refuse(CANNOT_COME, at);
         }
 
-        /** The number of the name that stands here, or NONE behind a refusal. */
-        private int name() {
-            skipBlanks();
-            int end = wordEnd();
-            int width = end - at;
-            nameAt = at;
-            if (width < 1 || width > 2 || !isLetter(tape[at]) || (width == 2 && !isFigure(tape[at + 1]))) {
-                refuse(CANNOT_COME, at);
-                return NONE;
-            }
-            int name = (tape[at] - 'a') * NAMES_A_LETTER;
-            if (width == 2) {
-                name += tape[at + 1] - '0' + 1;
-            }
-            at = end;
-            return name;
-        }
-
-        /** The net of the name that stands here, or NONE behind a refusal. */
-        private int givenNet() {
-            int name = name();
+        /** Whether a name that is given already stands here. */
+        private boolean isGiven() {
             if (name == NONE) {
-                return NONE;
+                return refuse(CANNOT_COME, at);
             }
-            if (netOfName[name] == NONE) {
-                refuse(NOT_GIVEN, nameAt);
-            }
-            return netOfName[name];
+            return netOfName[name] != NONE || refuse(NOT_GIVEN, at);
         }
 
-        private void give(int name) {
-            netOfName[name] = circuit.nets;
+        /** Whether a name at this place may be given, if so many nets are the most. */
+        private boolean mayGive(int its, int where, int most) {
+            if (netOfName[its] != NONE) {
+                return refuse(GIVEN_ALREADY, where);
+            }
+            return circuit.nets < most || refuse(TOO_MANY, where);
+        }
+
+        private void give(int its) {
+            netOfName[its] = circuit.nets;
             circuit.nets++;
         }
 
@@ -494,7 +500,7 @@ public final class ScanTester {
             if (takes(';')) {
                 return true;
             }
-            for (int k = 0; k < MOST_BYTES; k++) {
+            for (int k = 0; k <= MOST_SOURCES; k++) {
                 if (!source(areFlops)) {
                     return false;
                 }
@@ -506,15 +512,11 @@ public final class ScanTester {
         }
 
         private boolean source(boolean isFlop) {
-            int name = name();
             if (name == NONE) {
+                return refuse(CANNOT_COME, at);
+            }
+            if (!mayGive(name, at, MOST_SOURCES)) {
                 return false;
-            }
-            if (netOfName[name] != NONE) {
-                return refuse(GIVEN_ALREADY, nameAt);
-            }
-            if (circuit.nets >= MOST_SOURCES) {
-                return refuse(TOO_MANY, nameAt);
             }
             give(name);
             if (isFlop) {
@@ -522,71 +524,65 @@ public final class ScanTester {
             } else {
                 circuit.inputs++;
             }
+            advance();
             return true;
         }
 
         private boolean lines() {
             for (int k = 0; k < MOST_BYTES; k++) {
-                if (isHere("out")) {
+                if (isWord("out")) {
                     return true;
                 }
-                if (!line()) {
+                int its = name;
+                int where = at;
+                if (its == NONE) {
+                    return refuse(CANNOT_COME, at);
+                }
+                advance();
+                boolean isFine = isMark('=') ? gateLine(its, where) : nextLine(netOfName[its], where);
+                if (!isFine) {
                     return false;
                 }
             }
             return false;
         }
 
-        private boolean line() {
-            int name = name();
-            if (name == NONE) {
+        private boolean gateLine(int its, int where) {
+            if (!mayGive(its, where, MOST_NETS)) {
                 return false;
             }
-            if (takes('=')) {
-                return gateLine(name);
+            advance();
+            int operation = operationHere();
+            if (operation == NONE) {
+                return false;
             }
-            if (takes('<')) {
-                return nextLine(netOfName[name]);
-            }
-            return refuse(CANNOT_COME, at);
-        }
-
-        private boolean gateLine(int name) {
-            if (netOfName[name] != NONE) {
-                return refuse(GIVEN_ALREADY, nameAt);
-            }
-            if (circuit.nets >= MOST_NETS) {
-                return refuse(TOO_MANY, nameAt);
-            }
-            int operation = operation();
-            if (operation == NONE || !mark('(') || !lookedList(operation) || !mark(';')) {
+            advance();
+            if (!mark('(') || !lookedList(operation) || !mark(';')) {
                 return false;
             }
             circuit.operation[circuit.nets] = operation;
             // Only now, for a line may not look at the name that it gives.
-            give(name);
+            give(its);
             return true;
         }
 
         /** The operation that stands here, or NONE behind a refusal. */
-        private int operation() {
-            skipBlanks();
-            if (at >= length || !isLetter(tape[at])) {
+        private int operationHere() {
+            if (at >= length || tape[at] < 'a' || tape[at] > 'z') {
                 refuse(CANNOT_COME, at);
                 return NONE;
             }
-            int end = wordEnd();
             for (int k = 0; k < LEAST_LOOKED.length; k++) {
-                if (isOperation(k, end - at)) {
-                    at = end;
+                if (isOperation(k)) {
                     return k;
                 }
             }
-            refuse(GIVEN_ALREADY, at);
+            refuse(NO_OPERATION, at);
             return NONE;
         }
 
-        private boolean isOperation(int operation, int width) {
+        private boolean isOperation(int operation) {
+            int width = end - at;
             if (width > OPERATION_WIDTH) {
                 return false;
             }
@@ -603,14 +599,14 @@ public final class ScanTester {
             int least = LEAST_LOOKED[operation];
             int most = MOST_OF_OPERATION[operation];
             for (int k = 0; k <= MOST_LOOKED; k++) {
-                int net = givenNet();
-                if (net == NONE) {
+                if (!isGiven()) {
                     return false;
                 }
                 if (k == MOST_LOOKED) {
-                    return refuse(TOO_MANY, nameAt);
+                    return refuse(TOO_MANY, at);
                 }
-                circuit.looked[circuit.nets * MOST_LOOKED + k] = net;
+                circuit.looked[circuit.nets * MOST_LOOKED + k] = netOfName[name];
+                advance();
                 int count = k + 1;
                 if (count >= least && takes(')')) {
                     circuit.lookedCount[circuit.nets] = count;
@@ -625,19 +621,24 @@ public final class ScanTester {
             return false;
         }
 
-        private boolean nextLine(int net) {
+        private boolean nextLine(int net, int where) {
+            if (!isMark('<')) {
+                return refuse(CANNOT_COME, at);
+            }
             if (net == NONE || !circuit.isFlop(net)) {
-                return refuse(NOT_GIVEN, nameAt);
+                return refuse(NOT_GIVEN, where);
             }
             int flop = net - circuit.inputs;
             if (circuit.next[flop] != NONE) {
-                return refuse(GIVEN_ALREADY, nameAt);
+                return refuse(GIVEN_ALREADY, where);
             }
-            if (!mark('-')) {
+            advance();
+            if (!mark('-') || !isGiven()) {
                 return false;
             }
-            circuit.next[flop] = givenNet();
-            return circuit.next[flop] != NONE && mark(';');
+            circuit.next[flop] = netOfName[name];
+            advance();
+            return mark(';');
         }
 
         private boolean outputList() {
@@ -645,15 +646,15 @@ public final class ScanTester {
                 return true;
             }
             for (int k = 0; k <= MOST_OUTPUTS; k++) {
-                int net = givenNet();
-                if (net == NONE) {
+                if (!isGiven()) {
                     return false;
                 }
                 if (k == MOST_OUTPUTS) {
-                    return refuse(TOO_MANY, nameAt);
+                    return refuse(TOO_MANY, at);
                 }
-                circuit.output[k] = net;
+                circuit.output[k] = netOfName[name];
                 circuit.outputs = k + 1;
+                advance();
                 if (!takes(',')) {
                     return mark(';');
                 }
@@ -664,7 +665,8 @@ public final class ScanTester {
 
     /**
      * With which patterns each stuck f shows, and the tests that are chosen
-     * from that. Made when first asked for, as many circuits never are.
+     * from that. Many circuits are never asked for it, so it is made on demand:
+     * make() comes before all that tells of it.
      */
     private static final class Choice {
         private static final int WORD_SOURCES = 6;
@@ -673,14 +675,19 @@ public final class ScanTester {
         private final Circuit circuit;
         private final long[] showing = new long[MOST_STUCK * MOST_WORDS];
         private final long[] good = new long[MOST_NETS];
+
+        /** The cubes chosen; what is free has no bit among the ones, so these are the tests. */
         private final int[] ones = new int[MOST_STUCK];
         private final int[] free = new int[MOST_STUCK];
+
+        /** What a good chip answers to each test. */
         private final int[] due = new int[MOST_STUCK];
+
         private boolean made;
         private int words;
         private long patternsOfWord;
         private int testable;
-        private int chosen;
+        private int tests;
 
         Choice(Circuit circuit) {
             this.circuit = circuit;
@@ -690,61 +697,7 @@ public final class ScanTester {
             made = false;
         }
 
-        int testableCount() {
-            make();
-            return testable;
-        }
-
-        int testCount() {
-            make();
-            return chosen;
-        }
-
-        /** What is free has no bit among the ones, so it is 0 in the test. */
-        int testAt(int i) {
-            make();
-            return ones[i];
-        }
-
-        /** What a good chip answers to test i. */
-        int dueAt(int i) {
-            make();
-            return due[i];
-        }
-
-        boolean isTestable(int f) {
-            make();
-            return anyPattern(f);
-        }
-
-        int patternCount(int f) {
-            make();
-            int count = 0;
-            for (int w = 0; w < words; w++) {
-                count += Long.bitCount(showing[f * MOST_WORDS + w]);
-            }
-            return count;
-        }
-
-        int leastPattern(int f) {
-            make();
-            return least(f);
-        }
-
-        int onesOfCube(int f) {
-            make();
-            if (!anyPattern(f)) {
-                return NONE;
-            }
-            return least(f) & ~freeSources(f);
-        }
-
-        int freeOfCube(int f) {
-            make();
-            return anyPattern(f) ? freeSources(f) : NONE;
-        }
-
-        private void make() {
+        void make() {
             if (made) {
                 return;
             }
@@ -756,6 +709,41 @@ public final class ScanTester {
                 weigh(w);
             }
             choose();
+        }
+
+        boolean isTestable(int f) {
+            for (int w = 0; w < words; w++) {
+                if (showing[f * MOST_WORDS + w] != 0) {
+                    return true;
+                }
+            }
+            return false;
+        }
+
+        int patternCount(int f) {
+            int count = 0;
+            for (int w = 0; w < words; w++) {
+                count += Long.bitCount(showing[f * MOST_WORDS + w]);
+            }
+            return count;
+        }
+
+        int leastPattern(int f) {
+            for (int pattern = 0; pattern < (words << WORD_SOURCES); pattern++) {
+                long word = showing[f * MOST_WORDS + (pattern >> WORD_SOURCES)];
+                if (((word >> (pattern & 63)) & 1) != 0) {
+                    return pattern;
+                }
+            }
+            return NONE;
+        }
+
+        int onesOfCube(int f) {
+            return isTestable(f) ? leastPattern(f) & ~freeSources(f) : NONE;
+        }
+
+        int freeOfCube(int f) {
+            return isTestable(f) ? freeSources(f) : NONE;
         }
 
         private void weigh(int w) {
@@ -772,22 +760,22 @@ public final class ScanTester {
 
         private void choose() {
             testable = 0;
-            chosen = 0;
+            tests = 0;
             for (int f = 0; f < 2 * circuit.nets; f++) {
-                if (anyPattern(f)) {
+                if (isTestable(f)) {
                     testable++;
                     if (!showsWithChosen(f)) {
                         merge(f);
                     }
                 }
             }
-            for (int i = 0; i < chosen; i++) {
+            for (int i = 0; i < tests; i++) {
                 due[i] = circuit.respond(ones[i], NONE);
             }
         }
 
         private boolean showsWithChosen(int f) {
-            for (int i = 0; i < chosen; i++) {
+            for (int i = 0; i < tests; i++) {
                 if (showsWith(f, ones[i], free[i])) {
                     return true;
                 }
@@ -797,41 +785,22 @@ public final class ScanTester {
 
         private void merge(int f) {
             int itsFree = freeSources(f);
-            int itsOnes = least(f) & ~itsFree;
-            for (int i = 0; i < chosen; i++) {
+            int itsOnes = leastPattern(f) & ~itsFree;
+            for (int i = 0; i < tests; i++) {
                 if (((ones[i] ^ itsOnes) & ~(free[i] | itsFree)) == 0) {
                     ones[i] |= itsOnes;
                     free[i] &= itsFree;
                     return;
                 }
             }
-            ones[chosen] = itsOnes;
-            free[chosen] = itsFree;
-            chosen++;
-        }
-
-        private boolean anyPattern(int f) {
-            for (int w = 0; w < words; w++) {
-                if (showing[f * MOST_WORDS + w] != 0) {
-                    return true;
-                }
-            }
-            return false;
-        }
-
-        private int least(int f) {
-            for (int pattern = 0; pattern < (words << WORD_SOURCES); pattern++) {
-                long word = showing[f * MOST_WORDS + (pattern >> WORD_SOURCES)];
-                if (((word >> (pattern & 63)) & 1) != 0) {
-                    return pattern;
-                }
-            }
-            return NONE;
+            ones[tests] = itsOnes;
+            free[tests] = itsFree;
+            tests++;
         }
 
         /** The free sources of the cube of f, which must be testable. */
         private int freeSources(int f) {
-            int pattern = least(f);
+            int pattern = leastPattern(f);
             int itsFree = 0;
             for (int k = 0; k < circuit.sources(); k++) {
                 if (showsWith(f, pattern, itsFree | (1 << k))) {
@@ -899,7 +868,7 @@ public final class ScanTester {
         }
 
         int outputs(int inputs) {
-            return circuit.outputsOf(response(inputs));
+            return circuit.outputsOf(circuit.respond(patternWith(inputs), stuck));
         }
 
         int tdo(int tdi) {
@@ -929,19 +898,19 @@ public final class ScanTester {
             state = AFTER[2 * state + tms];
         }
 
-        private int response(int inputs) {
-            return circuit.respond(inputs | (held << circuit.inputs), stuck);
+        private int patternWith(int inputs) {
+            return inputs | (held << circuit.inputs);
         }
 
         private void idle(int inputs) {
             if (code != CHAIN_CODE) {
-                held = circuit.nextsOf(response(inputs));
+                held = circuit.nextsOf(circuit.respond(patternWith(inputs), stuck));
             }
         }
 
         private void capture(int inputs) {
             if (code == CHAIN_CODE) {
-                held = circuit.nextsOf(response(inputs));
+                held = circuit.nextsOf(circuit.respond(patternWith(inputs), stuck));
             } else {
                 beside = 0;
             }
@@ -956,7 +925,7 @@ public final class ScanTester {
         }
     }
 
-    /** The rows for the tests, each made when it is asked for. */
+    /** The rows for the tests of a choice that is made, each worked out when it is asked for. */
     private static final class Program {
         private static final int ANYTHING = 2;
 
@@ -973,7 +942,6 @@ public final class ScanTester {
         private final Circuit circuit;
         private final Choice choice;
         private final Chip trial;
-        private int escaped = NONE;
 
         Program(Circuit circuit, Choice choice) {
             this.circuit = circuit;
@@ -981,12 +949,8 @@ public final class ScanTester {
             trial = new Chip(circuit);
         }
 
-        void forget() {
-            escaped = NONE;
-        }
-
         int rowCount() {
-            return LEAD + (choice.testCount() + 1) * stepsOfTest();
+            return LEAD + (choice.tests + 1) * stepsOfTest();
         }
 
         int tms(int i) {
@@ -1000,25 +964,25 @@ public final class ScanTester {
             if (i < LEAD) {
                 return LEAD_TDI[i];
             }
-            if (!isShift(i) || turn(i) >= choice.testCount()) {
+            if (!isShift(i) || turn(i) >= choice.tests) {
                 return 0;
             }
-            return (choice.testAt(turn(i)) >> (circuit.inputs + flopOfShift(i))) & 1;
+            return (choice.ones[turn(i)] >> (circuit.inputs + flopOfShift(i))) & 1;
         }
 
         int inputs(int i) {
-            return capturesTest(i) ? circuit.inputsOf(choice.testAt(turn(i) - 1)) : 0;
+            return capturesTest(i) ? circuit.inputsOf(choice.ones[turn(i) - 1]) : 0;
         }
 
         int tdoDue(int i) {
             if (!isShift(i) || turn(i) == 0) {
                 return ANYTHING;
             }
-            return (circuit.nextsOf(choice.dueAt(turn(i) - 1)) >> flopOfShift(i)) & 1;
+            return (circuit.nextsOf(choice.due[turn(i) - 1]) >> flopOfShift(i)) & 1;
         }
 
         int outputsDue(int i) {
-            return capturesTest(i) ? circuit.outputsOf(choice.dueAt(turn(i) - 1)) : NONE;
+            return capturesTest(i) ? circuit.outputsOf(choice.due[turn(i) - 1]) : NONE;
         }
 
         int failingRow(int f) {
@@ -1031,18 +995,6 @@ public final class ScanTester {
                 trial.pulse(tms(i), tdi(i), inputs(i));
             }
             return NONE;
-        }
-
-        int escapeCount() {
-            if (escaped == NONE) {
-                escaped = 0;
-                for (int f = 0; f < 2 * circuit.nets; f++) {
-                    if (choice.isTestable(f) && failingRow(f) == NONE) {
-                        escaped++;
-                    }
-                }
-            }
-            return escaped;
         }
 
         private boolean showsWhatIsDue(int i) {

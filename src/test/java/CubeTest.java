@@ -82,10 +82,23 @@ public final class CubeTest {
         ScanTester z = Check.reading("in a,b;ff;c=and(a,b);d=nor(a,b);e=not(a);f=not(b);g=and(a,f);h=and(b,e);"
             + "out c,d,g,h;");
         Check.same("all can be shown", z.told(3), 16);
+        // 0, 1, 3 stand behind one another; 4 comes into the first, 5 into the second,
+        // 6 into the third, as the first that is not against it; 12 and 13 show already.
+        tests("in a,b,c,d;ff;e=and(a,b);f=or(c,d);g=xor(e,f);out g,e;", 7, 2, 9);
+        tests("in a,b,c;ff;d=and(a,b);e=or(d,c);out e;", 3, 2, 1, 4);
+        tests(Check.PLAIN, 3, 2, 17, 4, 8, 0);
         everyTestableOneShows(z, 16);
         everyTestableOneShows(Check.reading(Check.PLAIN), 20);
         ScanTester none = Check.reading("in a,b;ff;out;");
         Check.same("nothing to test", none.told(4), 0);
+    }
+
+    private static void tests(String text, int... due) {
+        ScanTester x = Check.reading(text);
+        Check.same("tests of " + text, x.told(4), due.length);
+        for (int i = 0; i < due.length; i++) {
+            Check.same("test " + i + " of " + text, x.test(i), due[i]);
+        }
     }
 
     private static void everyTestableOneShows(ScanTester x, int stuck) {
