@@ -3,7 +3,12 @@ public final class ModelTest {
     private static final String[] OPERATIONS = {"and", "or", "xor", "nand", "nor", "not", "buf", "mux"};
     private static final String MARKS = "abz019 ;,=<-()?inffoutandmux\0\t\377A";
 
+    /** Of the 512 calls that an object is promised for, what feeding and reading leave. */
+    private static final int CALLS = 390;
+
     private static long seed = 20261115L;
+    private static ScanTester asked;
+    private static int callsLeft;
 
     public static void main(String[] args) {
         for (int k = 0; k < 250; k++) {
@@ -22,6 +27,16 @@ public final class ModelTest {
     private static int below(int bound) {
         seed = seed * 6364136223846793005L + 1442695040888963407L;
         return (int) ((seed >>> 33) % bound);
+    }
+
+    /** An object that has read the text, for one call; when it has had its calls, a new one comes. */
+    private static ScanTester ask(String text) {
+        if (callsLeft == 0) {
+            asked = Check.reading(text);
+            callsLeft = CALLS;
+        }
+        callsLeft--;
+        return asked;
     }
 
     private static String nameOf(int net) {
@@ -85,55 +100,57 @@ public final class ModelTest {
             Check.same("the model refuses " + text, fault.number, 0);
             return;
         }
-        ScanTester x = Check.reading(text);
-        Check.same("nets of " + text, x.read(), model.nets.size());
+        callsLeft = 0;
+        Check.same("nets of " + text, ask(text).read(), model.nets.size());
         int[] told = {model.inputs.size(), model.flops.size(), model.outputs.size(), model.testable(),
             model.tests.size(), model.rows.size()};
         for (int what = 0; what < 6; what++) {
-            Check.same("told " + what + " of " + text, x.told(what), told[what]);
+            Check.same("told " + what + " of " + text, ask(text).told(what), told[what]);
         }
-        stuckOnes(x, model, text);
+        stuckOnes(model, text);
         for (int i = 0; i < model.tests.size(); i++) {
-            Check.same("test " + i + " of " + text, x.test(i), model.tests.get(i));
+            Check.same("test " + i + " of " + text, ask(text).test(i), model.tests.get(i));
         }
         for (int i = 0; i < model.rows.size(); i++) {
             for (int what = 0; what < 5; what++) {
-                Check.same("row " + i + " " + what + " of " + text, x.row(i, what), model.rows.get(i)[what]);
+                Check.same("row " + i + " " + what + " of " + text, ask(text).row(i, what), model.rows.get(i)[what]);
             }
         }
-        for (int k = 0; k < 3; k++) {
-            clocks(x, model, below(2 * model.nets.size() + 1) - 1, text);
+        for (int k = 0; k < 6; k++) {
+            clocks(model, below(2 * model.nets.size() + 1) - 1, text);
         }
     }
 
-    private static void stuckOnes(ScanTester x, Model model, String text) {
+    private static void stuckOnes(Model model, String text) {
         int escapes = 0;
         for (int f = -1; f < 2 * model.nets.size(); f++) {
             int fails = model.fails(f);
-            Check.same("fails " + f + " of " + text, x.fails(f), fails);
+            Check.same("fails " + f + " of " + text, ask(text).fails(f), fails);
             for (int k = 0; k < 8; k++) {
                 int pattern = below(1 << model.sources());
-                Check.same("answer " + pattern + " " + f + " of " + text, x.answer(pattern, f), model.answer(pattern, f));
+                int due = model.answer(pattern, f);
+                Check.same("answer " + pattern + " " + f + " of " + text, ask(text).answer(pattern, f), due);
             }
             if (f >= 0) {
                 String cube = model.cube(f);
-                Check.same("count " + f + " of " + text, x.shows(f, 0), model.count(f));
-                Check.same("least " + f + " of " + text, x.shows(f, 1), model.least(f));
-                Check.same("ones " + f + " of " + text, x.shows(f, 2), cube == null ? -1 : Model.bits(cube, '1'));
-                Check.same("free " + f + " of " + text, x.shows(f, 3), cube == null ? -1 : Model.bits(cube, 'x'));
+                Check.same("count " + f + " of " + text, ask(text).shows(f, 0), model.count(f));
+                Check.same("least " + f + " of " + text, ask(text).shows(f, 1), model.least(f));
+                Check.same("ones " + f + " of " + text, ask(text).shows(f, 2), cube == null ? -1 : Model.bits(cube, '1'));
+                Check.same("free " + f + " of " + text, ask(text).shows(f, 3), cube == null ? -1 : Model.bits(cube, 'x'));
                 escapes += fails < 0 && cube != null ? 1 : 0;
             }
         }
-        Check.same("escapes of " + text, x.escapes(), escapes);
+        Check.same("escapes of " + text, ask(text).escapes(), escapes);
     }
 
-    private static void clocks(ScanTester x, Model model, int f, String text) {
+    private static void clocks(Model model, int f, String text) {
+        ScanTester x = Check.reading(text);
         x.chip(f);
         Model.Piece piece = model.new Piece(f);
         int coming = 0;
-        for (int k = 0; k < 150; k++) {
-            // The port is led to code 1 now and then, which chance alone seldom does.
-            int[] row = k % 50 < 14 && k > 49 ? model.rows.get(k % 50) : null;
+        for (int k = 0; k < CALLS / 6; k++) {
+            // The port is led to code 1, which chance alone seldom does.
+            int[] row = k >= 20 && k < 34 ? model.rows.get(k - 20) : null;
             int tms = row != null ? row[0] : below(10) < 4 ? 1 : 0;
             int tdi = row != null ? row[1] : below(2);
             int inputs = below(1 << model.inputs.size());

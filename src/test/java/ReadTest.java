@@ -1,244 +1,212 @@
 /** Promises 4 to 6: read, fault, place. */
 public final class ReadTest {
+    private static final int NONE = ScanTester.NONE;
+
     public static void main(String[] args) {
-        circuits();
-        canNotCome();
-        tapeEnds();
-        notGiven();
-        givenAlready();
-        tooMany();
-        leastNumberAtOnePlace();
-        refusedTapeLeavesAll();
-        goodReadBeginsAnew();
+        becomesThatOfTheTape();
+        tapeStays();
+        chipAsAtFirst();
+        howManyNets();
+        allStays();
+        faultOfTheLast();
+        noFault();
+        placeOfThatFault();
+        noPlace();
         Check.end();
     }
 
-    private static void circuits() {
-        good("in;ff;out;", 0, 0, 0, 0);
-        good("in a;ff;out;", 1, 1, 0, 0);
-        good("in;ff a;out a,a;", 1, 0, 1, 2);
-        good(Check.PLAIN, 10, 3, 2, 3);
-        good("\0in\t\n a9 ,\1b ; ff c0;c1 = nand ( a9 , b,c0 ,a9 ) ;c0 < \37 - c1\r;out c1 ;  ", 4, 2, 1, 1);
-        good("in a,b,c;ff;d=and(a,b);e=or(a,b,c);f=xor(a,b,c,d);g=nand(a,b);h=nor(a,a);"
-            + "i=not(a);j=buf(a);k=mux(a,b,c);out k;", 11, 3, 0, 1);
-        good("in o,i,f;ff;u=not(o);out o,u,i,f,o,o,o,o;", 4, 3, 0, 8);
-        good("in a;ff b;b<-b;out b;", 2, 1, 1, 1);
-        good("in a,a0,a9,b,c,d,e,f;ff g,h;out;", 10, 8, 2, 0);
-    }
-
-    private static void good(String text, int nets, int inputs, int flops, int outputs) {
-        ScanTester x = new ScanTester();
-        Check.feed(x, text);
-        Check.same("read of " + text, x.read(), nets);
-        Check.same("fault of " + text, x.fault(), 0);
-        Check.same("place of " + text, x.place(), ScanTester.NONE);
-        Check.same("inputs of " + text, x.told(0), inputs);
-        Check.same("flip-flops of " + text, x.told(1), flops);
-        Check.same("outputs of " + text, x.told(2), outputs);
-        Check.same("read again of " + text, x.read(), nets);
-        Check.same("the tape stays: " + text, x.wipe(), text.length());
-    }
-
-    /** The mark ^ stands before the place that is due. */
-    private static void bad(int number, String marked) {
-        int place = marked.indexOf('^');
-        String text = marked.substring(0, place) + marked.substring(place + 1);
-        ScanTester x = new ScanTester();
-        Check.feed(x, text);
-        Check.same("read of " + marked, x.read(), ScanTester.NONE);
-        Check.same("fault of " + marked, x.fault(), number);
-        Check.same("place of " + marked, x.place(), place);
-        Check.same("told behind " + marked, x.told(5), 18);
-    }
-
-    private static void canNotCome() {
-        bad(1, "^i n a;ff;out;");
-        bad(1, "^inn a;ff;out;");
-        bad(1, "^ina;ff;out;");
-        bad(1, "^IN a;ff;out;");
-        bad(1, " ^ff;out;");
-        bad(1, "in ;^;ff;out;");
-        bad(1, "in ^,a;ff;out;");
-        bad(1, "in a,^;ff;out;");
-        bad(1, "in a ^b;ff;out;");
-        bad(1, "in ^a12;ff;out;");
-        bad(1, "in ^ab;ff;out;");
-        bad(1, "in ^1a;ff;out;");
-        bad(1, "in ^1;ff;out;");
-        bad(1, "in a ^1;ff;out;");
-        bad(1, "in a^B;ff;out;");
-        bad(1, "in a;^f f;out;");
-        bad(1, "in a;^out;");
-        bad(1, "in a;ff;^in;out;");
-        bad(1, "in a;ff;^ou;");
-        bad(1, "in a;ff;^outt;");
-        bad(1, "in a;ff;^out1;");
-        bad(1, "in a;ff;^;out;");
-        bad(1, "in a;ff;x^;out;");
-        bad(1, "in a;ff;a ^(a);out;");
-        bad(1, "in a;ff;b=^(a);out;");
-        bad(1, "in a;ff;b=^;out;");
-        bad(1, "in a;ff;b=not ^a;out;");
-        bad(1, "in a;ff;b=not(^);out;");
-        bad(1, "in a;ff;b=not(a^,a);out;");
-        bad(1, "in a;ff;b=buf(a^,a);out;");
-        bad(1, "in a;ff;b=and(a^);out;");
-        bad(1, "in a;ff;b=nor(a^);out;");
-        bad(1, "in a;ff;b=mux(a^);out;");
-        bad(1, "in a;ff;b=mux(a,a^);out;");
-        bad(1, "in a;ff;b=mux(a,a,a^,a);out;");
-        bad(1, "in a;ff;b=and(a ^a);out;");
-        bad(1, "in a;ff;b=and(a,a)^out;");
-        bad(1, "in a;ff b;b<^a;out;");
-        bad(1, "in a;ff b;b<^<-a;out;");
-        bad(1, "in a;ff b;b<-^-a;out;");
-        bad(1, "in a;ff b;b<-^ab;out;");
-        bad(1, "in a;ff b;b<-a^,a;out;");
-        bad(1, "in a;ff;out^(a);");
-        bad(1, "in a;ff;out a,^;");
-        bad(1, "in a;ff;out a;^b=not(a);");
-        bad(1, "in a;ff;out a; ^;");
-        bad(1, "in a;ff;out a;^\377");
-        bad(1, "in a;ff;^!out a;");
-        bad(1, "in a;ff;^\200out a;");
-    }
-
-    private static void tapeEnds() {
-        String[] beginnings = {
-            "", "  ", "in", "in ", "in a", "in a,", "in;", "in a;ff", "in a;ff b,", "in a;ff;", "in a;ff;b",
-            "in a;ff;b=", "in a;ff;b=and", "in a;ff;b=and(", "in a;ff;b=and(a", "in a;ff;b=and(a,",
-            "in a;ff;b=and(a,a)", "in a;ff b;b<", "in a;ff b;b<-", "in a;ff b;b<-a", "in a;ff;out", "in a;ff;out a",
-            "in a;ff;out a,", "in a;ff;b=and(a,a,a,a,"
-        };
-        for (String text : beginnings) {
-            bad(1, text + "^");
-        }
-        bad(1, "^i");
-        bad(1, "in a;ff;^ou");
-    }
-
-    private static void notGiven() {
-        bad(2, "in a;ff;b=and(a,^c);out;");
-        bad(2, "in a;ff;b=not(^b);out;");
-        bad(2, "in a;ff;b=not(^c);c=not(a);out;");
-        bad(2, "in a;ff;b=not(^a1);out;");
-        bad(2, "in a1;ff;b=not(^a);out;");
-        bad(2, "in a;ff b;b<-^c;out;");
-        bad(2, "in a;ff b;b<-^c;c=not(a);out;");
-        bad(2, "in a;ff;out ^b;");
-        bad(2, "in a;ff;out a,^b,?");
-        bad(2, "in a;ff b;^a<-b;out;");
-        bad(2, "in a;ff b;^c<-b;out;");
-        bad(2, "in a;ff b;c=not(a);^c<-b;out;");
-        bad(2, "in a;ff b;^a<?");
-        bad(2, "in a;ff b;^c<");
-    }
-
-    private static void givenAlready() {
-        bad(3, "in a,^a;ff;out;");
-        bad(3, "in a;ff ^a;out;");
-        bad(3, "in a;ff b,^b;out;");
-        bad(3, "in a;ff;^a=not(a);out;");
-        bad(3, "in a;ff b;^b=not(a);out;");
-        bad(3, "in a;ff;b=not(a);^b=not(a);out;");
-        bad(3, "in a;ff;^a=?");
-        bad(3, "in a;ff b;b<-a;^b<-a;out;");
-        bad(3, "in a;ff b;b<-a;^b<?");
-        bad(3, "in a;ff;b=^nott(a);out;");
-        bad(3, "in a;ff;b=^no(a);out;");
-        bad(3, "in a;ff;b=^an");
-        bad(3, "in a;ff;b=^nandx(a,a);out;");
-        bad(3, "in a;ff;b=^and2(a,a);out;");
-        bad(3, "in a;ff;b=^a;out;");
-        bad(3, "in a;ff;b=^xnor(a,a);out;");
-        bad(3, "in a;ff;b=^mu x(a,a,a);out;");
-    }
-
-    private static void tooMany() {
-        bad(4, "in a,b,c,d,e,f,g,h,i,j,^k;ff;out;");
-        bad(4, "in a,b,c,d,e,f,g,h,i,j;ff ^k;out;");
-        bad(4, "in a;ff b,c,d,e,f,g,h,i,j,^k;out;");
-        bad(4, "in a;ff;out a,a,a,a,a,a,a,a,^a;");
-        for (String operation : new String[] {"and", "or", "xor", "nand", "nor"}) {
-            bad(4, "in a;ff;b=" + operation + "(a,a,a,a,^a);out;");
-        }
-        String most = "in a;ff;" + inverters(59);
-        good(most + "out;", 60, 1, 0, 0);
-        bad(4, most + "^z=not(a);out;");
-        bad(4, most + "^z=?");
-        bad(1, most + "z^?");
-    }
-
-    private static String inverters(int count) {
-        StringBuilder text = new StringBuilder();
-        for (int k = 0; k < count; k++) {
-            text.append((char) ('b' + k / 10)).append(k % 10).append("=not(a);");
-        }
-        return text.toString();
-    }
-
-    private static void leastNumberAtOnePlace() {
-        bad(1, "in a,b,c,d,e,f,g,h,i,j,^?;ff;out;");
-        bad(3, "in a,b,c,d,e,f,g,h,i,j,^a;ff;out;");
-        bad(1, "in a;ff;b=and(a,a,a,a,^?);out;");
-        bad(2, "in a;ff;b=and(a,a,a,a,^c);out;");
-        bad(2, "in a;ff;out a,a,a,a,a,a,a,a,^b;");
-        bad(1, "in a;ff;out a,a,a,a,a,a,a,a,^;");
-        bad(3, "in a;ff;" + inverters(59) + "^a=not(a);out;");
-    }
-
-    private static void refusedTapeLeavesAll() {
-        ScanTester x = Check.reading(Check.PLAIN);
-        x.chip(18);
-        x.clock(false, true, 5);
-        x.clock(false, true, 5);
-        int held = x.chipHas(2);
-        int told = x.told(4);
-        int seen = x.answer(7, 3);
+    private static void read(ScanTester x, String text) {
         x.wipe();
-        Check.feed(x, "in a;ff b;c=not(a);b<-c;out c,?;");
-        Check.same("read", x.read(), ScanTester.NONE);
-        Check.same("fault", x.fault(), 1);
-        Check.same("inputs stay", x.told(0), 3);
-        Check.same("tests stay", x.told(4), told);
-        Check.same("answers stay", x.answer(7, 3), seen);
-        Check.same("the state stays", x.chipHas(0), 1);
-        Check.same("the flip-flops stay", x.chipHas(2), held);
-        ScanTester same = Check.reading(Check.PLAIN);
-        same.chip(18);
-        same.clock(false, true, 5);
-        same.clock(false, true, 5);
-        Check.same("the fault in the chip stays", x.clock(true, false, 7), same.clock(true, false, 7));
+        Check.feed(x, text);
+        x.read();
     }
 
-    private static void goodReadBeginsAnew() {
+    private static void becomesThatOfTheTape() {
+        Check.sentence("Promise 4", "The circuit becomes that of the tape");
+        ScanTester x = new ScanTester();
+        read(x, "in a,b;ff;c=or(a,b);d=and(a,c);out d,a;");
+        told(x, 2, 0, 2, 5, 2, 26);
+        Check.same("test 0", x.test(0), 1);
+        // Smaller, then with more: nothing of the one before is left.
+        read(x, "in;ff;out;");
+        told(x, 0, 0, 0, 0, 0, 18);
+        Check.same("no tests", x.escapes(), 0);
+        Check.index("no net is left", () -> x.shows(0, 0));
+        read(x, Check.PLAIN);
+        told(x, 3, 2, 3, 20, 6, 56);
+        Check.same("test 2", x.test(2), 17);
+        read(x, "in;ff p,q;out p;");
+        told(x, 0, 2, 1, 2, 2, 32);
+        Check.same("no next is left", x.answer(2, NONE), 4);
+        // Without a read the tape is no circuit.
+        x.wipe();
+        Check.feed(x, Check.PLAIN);
+        Check.same("not read yet", x.told(0), 0);
+    }
+
+    private static void told(ScanTester x, int... due) {
+        for (int what = 0; what < due.length; what++) {
+            Check.same("told " + what, x.told(what), due[what]);
+        }
+    }
+
+    private static void tapeStays() {
+        Check.sentence("Promise 4", "(which stays)");
+        ScanTester x = new ScanTester();
+        Check.feed(x, "in a;ff;out a;");
+        for (int k = 0; k < 3; k++) {
+            Check.same("read", x.read(), 1);
+        }
+        Check.same("feed behind it", x.feed(1, '?'), 15);
+        Check.same("read", x.read(), NONE);
+        Check.same("place", x.place(), 14);
+        Check.same("read again", x.read(), NONE);
+        Check.same("place", x.place(), 14);
+        Check.same("wipe", x.wipe(), 15);
+    }
+
+    private static void chipAsAtFirst() {
+        Check.sentence("Promise 4", "the chip a good one, as at first");
         ScanTester x = new ScanTester();
         Check.feed(x, "in a;ff b;b<-a;out b;");
         x.read();
-        Check.same("tests of the first", x.told(4) > 0 ? 1 : 0, 1);
         x.chip(1);
-        x.clock(false, true, 0);
-        x.clock(false, true, 0);
-        Check.same("before", x.chipHas(2), 1);
+        // To code 2; b becomes 1 in idle, for a is stuck; then a bit goes beside.
+        String tms = "0110001101000";
+        String tdi = "0000001000001";
+        for (int k = 0; k < tms.length(); k++) {
+            x.clock(tms.charAt(k) == '1', tdi.charAt(k) == '1', 0);
+        }
+        for (int what = 0; what < 5; what++) {
+            Check.same("before: chipHas " + what + " is another", x.chipHas(what) != (what == 1 ? 3 : 0) ? 1 : 0, 1);
+        }
         x.read();
-        Check.same("state", x.chipHas(0), 0);
-        Check.same("flip-flops", x.chipHas(2), 0);
+        int[] due = {0, 3, 0, 0, 0};
+        for (int what = 0; what < 5; what++) {
+            Check.same("chipHas " + what, x.chipHas(what), due[what]);
+        }
         x.clock(false, true, 0);
         x.clock(false, true, 0);
-        Check.same("a good chip", x.chipHas(2), 0);
+        Check.same("a is not stuck", x.chipHas(2), 0);
+    }
+
+    private static void howManyNets() {
+        Check.sentence("Promise 4", "Answers how many nets it has");
+        Check.good("in;ff;out;", 0);
+        Check.good("in a;ff;out;", 1);
+        Check.good("in;ff a;a<-a;out a,a;", 1);
+        Check.good(Check.PLAIN, 10);
+        Check.good("in a,b,c;ff;d=and(a,b);e=or(a,b,c);f=xor(a,b,c,d);g=nand(a,b);h=nor(a,a);"
+            + "i=not(a);j=buf(a);k=mux(a,b,c);out k;", 11);
+        Check.good("in a;ff;" + TextTest.inverters(59) + "out;", 60);
+    }
+
+    private static void allStays() {
+        Check.sentence("Promise 4", "NONE when there is a fault: all stays.");
+        String[] faulty = {"", "in b;ff;out b,?;", "in b;ff c;c<-b;out d;", "in b,b;ff;out;", "in b;ff;c=not(b);out c,c,c,c,c,c,c,c,c;"};
+        for (String text : faulty) {
+            ScanTester x = busy();
+            ScanTester same = busy();
+            x.wipe();
+            same.wipe();
+            Check.feed(x, text);
+            Check.same("read of " + text, x.read(), NONE);
+            told(x, 3, 2, 3, 20, 6, 56);
+            for (int f = NONE; f < 20; f++) {
+                Check.same("answer " + f, x.answer(7, f), same.answer(7, f));
+                Check.same("fails " + f, x.fails(f), same.fails(f));
+            }
+            for (int i = 0; i < 6; i++) {
+                Check.same("test " + i, x.test(i), same.test(i));
+            }
+            for (int k = 0; k < 20; k++) {
+                for (int what = 0; what < 5; what++) {
+                    Check.same("chipHas " + what, x.chipHas(what), same.chipHas(what));
+                }
+                Check.same("clock " + k, x.clock(k % 5 == 3, true, k % 8), same.clock(k % 5 == 3, true, k % 8));
+            }
+            Check.same("the tape stays", x.wipe(), text.length());
+        }
+        // Also when nothing was asked for before the fault, and on a new object.
+        ScanTester y = Check.reading(Check.PLAIN);
+        y.wipe();
+        y.read();
+        Check.same("tests are made behind it", y.test(2), 17);
+        ScanTester z = new ScanTester();
+        z.read();
+        told(z, 0, 0, 0, 0, 0, 18);
+    }
+
+    /** An object whose chip is stuck and under way. */
+    private static ScanTester busy() {
+        ScanTester x = Check.reading(Check.PLAIN);
+        x.told(4);
+        x.chip(18);
+        x.clock(false, true, 5);
+        x.clock(false, true, 5);
+        return x;
+    }
+
+    private static void faultOfTheLast() {
+        Check.sentence("Promise 5", "The fault that the last read() met, 1 to 4");
+        ScanTester x = new ScanTester();
+        String[] texts = {"in a;ff;out ?;", "in a;ff;out b;", "in a;ff;a=not(a);out;", "in a;ff;b=and(a,a,a,a,a);out;"};
+        for (int k = 0; k < 4; k++) {
+            read(x, texts[k]);
+            Check.same("fault of " + texts[k], x.fault(), k + 1);
+            Check.same("and again", x.fault(), k + 1);
+        }
         x.wipe();
         Check.feed(x, "in;ff;out;");
-        x.read();
-        Check.same("tests of nothing", x.told(4), 0);
-        Check.same("rows of nothing", x.told(5), 18);
+        Check.same("not read yet", x.fault(), 4);
+        read(x, texts[1]);
+        Check.same("the last", x.fault(), 2);
+    }
+
+    private static void noFault() {
+        Check.sentence("Promise 5", "0 when it met none, or there was none.");
+        ScanTester x = new ScanTester();
+        Check.same("no read yet", x.fault(), 0);
         Check.feed(x, "?");
-        x.read();
-        Check.same("fault", x.fault(), 1);
-        Check.same("place", x.place(), 10);
+        Check.same("no read yet, with a fault on the tape", x.fault(), 0);
+        read(x, "in;ff;out;");
+        Check.same("it met none", x.fault(), 0);
+        read(x, "?");
+        Check.same("it met one", x.fault(), 1);
+        read(x, "in;ff;out;");
+        Check.same("it met none", x.fault(), 0);
+    }
+
+    private static void placeOfThatFault() {
+        Check.sentence("Promise 6", "The place of that fault on the tape");
+        ScanTester x = new ScanTester();
+        read(x, "");
+        Check.same("the end of nothing", x.place(), 0);
+        read(x, "?");
+        Check.same("the first byte", x.place(), 0);
+        read(x, "  in");
+        Check.same("the end", x.place(), 4);
+        read(x, "\t\0in  ab;ff;out;");
+        Check.same("blanks count as bytes", x.place(), 6);
+        read(x, "in a;ff;out b;");
+        Check.same("a name", x.place(), 12);
+        read(x, " ".repeat(899) + "?");
+        Check.same("the last byte", x.place(), 899);
         x.wipe();
+        Check.same("it stays behind a wipe", x.place(), 899);
         Check.feed(x, "in;ff;out;");
-        x.read();
-        Check.same("fault is gone", x.fault(), 0);
-        Check.same("place is gone", x.place(), ScanTester.NONE);
+        Check.same("and behind a feed", x.place(), 899);
+    }
+
+    private static void noPlace() {
+        Check.sentence("Promise 6", "NONE when there is none.");
+        ScanTester x = new ScanTester();
+        Check.same("no read yet", x.place(), NONE);
+        read(x, "in;ff;out;");
+        Check.same("no fault", x.place(), NONE);
+        read(x, "in;ff;out;?");
+        Check.same("a fault", x.place(), 10);
+        read(x, "in;ff;out;");
+        Check.same("no fault again", x.place(), NONE);
     }
 }
