@@ -129,6 +129,9 @@ public final class CubeTest {
         tests("in a,b;ff;out b,a;", 3, 0);
         // d at 1 shows with the second cube, and all the rest behind it too, so no fourth is chosen.
         tests("in a,b,c;ff;d=mux(b,a,c);out d,c;", 1, 4, 3);
+        // d at 1 shows with the first cube alone, or with the last alone, though its own is against it.
+        tests("in a,b,c;ff;d=mux(b,a,c);out d,a;", 3, 6, 1);
+        tests("in a,b;ff;c=not(b);d=mux(a,c,b);out d;", 3, 0, 2);
         // b at 1 shows with the second cube's least pattern, but not with all that it leaves.
         tests("in a,b,c;ff;d=or(c,b);out d,a;", 3, 0, 4);
         tests(WITH_UNTESTABLE, 1, 0);
@@ -223,6 +226,17 @@ public final class CubeTest {
         }
         shows(Check.reading("in a;ff p;out;"), 2, 0, NONE, NONE, NONE);
         shows(Check.reading(TEN), 31, 0, NONE, NONE, NONE);
+        // Before one that is, with all ten sources; and where the circuit before had one that was.
+        ScanTester y = Check.reading("in a,b,c,d,e,f,g,h,i,j;ff;k=and(a,b);l=xor(a,j);out l;");
+        shows(y, 20, 0, NONE, NONE, NONE);
+        shows(y, 21, 0, NONE, NONE, NONE);
+        Check.same("testable", y.told(3), 6);
+        y.wipe();
+        Check.feed(y, "in a;ff;out;");
+        y.read();
+        shows(y, 0, 0, NONE, NONE, NONE);
+        shows(y, 1, 0, NONE, NONE, NONE);
+        Check.same("testable", y.told(3), 0);
     }
 
     private static void noSuchStuck() {

@@ -102,6 +102,13 @@ public final class FaultTest {
         Check.sentence("Terms", "(at it, a word's first one");
         Check.bad(1, "^inn;ff;out;");
         Check.bad(1, " ^i;ff;out;");
+        Check.bad(1, "^an;ff;out;");
+        Check.bad(1, "^im;ff;out;");
+        Check.bad(1, "in;^of;out;");
+        Check.bad(1, "in;^fg;out;");
+        Check.bad(1, "in;ff;^but;");
+        Check.bad(1, "in;ff;^ott;");
+        Check.bad(1, "in;ff;^ous;");
         Check.bad(1, "^in1;ff;out;");
         Check.bad(1, "in;^fff;out;");
         Check.bad(1, "in;  ^f;out;");
@@ -124,6 +131,17 @@ public final class FaultTest {
             Check.badAt(1, text.length() + 3, text + " \n ");
         }
         Check.good(joined(0, PIECES.length), 7);
+        // Also where the 900 bytes end, and where a wiped tape had the rest.
+        for (int k = 0; k < PIECES.length; k++) {
+            String text = joined(0, k);
+            Check.badAt(1, 900, " ".repeat(900 - text.length()) + text);
+            ScanTester x = Check.reading(joined(0, PIECES.length));
+            x.wipe();
+            Check.feed(x, text);
+            x.read();
+            Check.same("fault of " + text, x.fault(), 1);
+            Check.same("place of " + text, x.place(), text.length());
+        }
         // A word that is cut off is a word that can't come.
         Check.bad(1, "^i");
         Check.bad(1, "in;^f");

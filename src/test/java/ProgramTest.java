@@ -171,6 +171,13 @@ public final class ProgramTest {
         column(x, 21, 1, 0, 0, 1, 0, 1, 0, 0);
         int last = 14 + 7 * x.told(4);
         column(x, last, 1, 0, 0, 0, 0, 0, 0, 0);
+        // Also where the circuit before had a test there, with p.
+        ScanTester before = Check.reading("in a,b,c;ff;d=mux(b,a,c);out d,c;");
+        Check.same("test 2", before.test(2), 3);
+        before.wipe();
+        Check.feed(before, CHAIN);
+        before.read();
+        column(before, 26, 1, 0, 0, 0, 0, 0, 0);
         // The highest goes in first.
         ScanTester y = Check.reading("in;ff p,q;n=not(q);b=and(p,n);out b;");
         Check.same("p alone", y.test(0), 1);
@@ -352,6 +359,13 @@ public final class ProgramTest {
             }
             Check.same("those of " + text, y.escapes(), due);
         }
+        // The first thing that is asked, where b showed in the circuit before, and answers to its tests are alike.
+        ScanTester z = Check.reading("in a,b;ff;out a,b;");
+        Check.same("testable", z.told(3), 4);
+        z.wipe();
+        Check.feed(z, "in a,b;ff;out a,a;");
+        z.read();
+        Check.same("b passes, but shows no more", z.escapes(), 0);
         Check.same("without a circuit", new ScanTester().escapes(), 0);
         Check.same("without tests", Check.reading("in a;ff p;out;").escapes(), 0);
     }

@@ -240,6 +240,10 @@ public final class RefusalTest {
         List<Integer> answers = new ArrayList<>();
         answers.add(x.fault());
         answers.add(x.place());
+        // Before what is asked below could change it.
+        for (int what = 0; what < 5; what++) {
+            answers.add(x.chipHas(what));
+        }
         for (int what = 0; what < 6; what++) {
             answers.add(x.told(what));
         }

@@ -304,6 +304,11 @@ public final class TextTest {
         Check.same("the last net at 0", x.answer(0, 118), 0);
         Check.same("the last net", x.answer(0, NONE), 1);
         Check.index("no net 60", () -> x.answer(0, 120));
+        // k0 is not a; the last net looks at more than one.
+        ScanTester y = Check.reading("in a,b;ff;" + inverters(57) + "z=nand(b,k0);out z;");
+        for (int pattern = 0; pattern < 4; pattern++) {
+            Check.same("the last net of " + pattern, y.answer(pattern, NONE), pattern == 2 ? 0 : 1);
+        }
     }
 
     private static void eightOutputs() {
