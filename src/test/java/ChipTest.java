@@ -457,7 +457,7 @@ public final class ChipTest {
     private static void has() {
         Check.sentence("Promise 16", "The chip's state (what = 0), code (1), flip-flops as bits (2), beside (3), the shifter (4).");
         ScanTester x = Check.reading("in a,b;ff p,q,r;p<-a;q<-b;r<-q;out;");
-        // In idle p becomes 1, then r what q was; a bit goes beside; the code becomes 2.
+        // In idle q becomes 1, then p does and r becomes what q was; a bit goes beside; the code becomes 2.
         x.clock(false, false, 0);
         x.clock(false, false, 2);
         x.clock(true, false, 1);

@@ -26,6 +26,7 @@ public final class FaceTest {
     };
 
     public static void main(String[] args) {
+        Check.sentence("The public face", "public final class ScanTester");
         Check.same("NONE", ScanTester.NONE, -1);
         Check.same("modifiers", ScanTester.class.getModifiers(), Modifier.PUBLIC | Modifier.FINAL);
         methods();
@@ -38,6 +39,7 @@ public final class FaceTest {
             boolean fine = Modifier.isStatic(inside.getModifiers())
                 && !Modifier.isPublic(inside.getModifiers()) && !Modifier.isProtected(inside.getModifiers());
             Check.same("class inside " + inside.getName(), fine ? 1 : 0, 1);
+            ownNames(inside);
         }
         Check.end();
     }
@@ -52,6 +54,17 @@ public final class FaceTest {
         }
         TreeSet<String> due = new TreeSet<>(Arrays.asList(METHODS));
         Check.same("methods " + seen, seen.equals(due) ? 1 : 0, 1);
+    }
+
+    /** No method inside bears the name of one of the face. */
+    private static void ownNames(Class<?> inside) {
+        for (Method m : inside.getDeclaredMethods()) {
+            boolean isOfTheFace = false;
+            for (String written : METHODS) {
+                isOfTheFace |= written.contains(" " + m.getName() + "(");
+            }
+            Check.same("name of " + inside.getName() + "." + m.getName(), isOfTheFace ? 1 : 0, 0);
+        }
     }
 
     private static void fields() {
