@@ -36,6 +36,10 @@ final class Check {
         count(got == due, what + " answered " + got + ", due is " + due);
     }
 
+    static void holds(String what, boolean isSo) {
+        count(isSo, what);
+    }
+
     static void argument(String what, Call call) {
         throwing(what, IllegalArgumentException.class, call);
     }
